@@ -1,0 +1,51 @@
+/** Compares answers with those that are due, and ends a test with exit code 1 if one differed. */
+final class Check {
+    private static int compared = 0;
+    private static int wrong = 0;
+
+    private Check() {
+    }
+
+    static void due(String call, long got, long want) {
+        compared++;
+        if (got != want) {
+            wrong++;
+            System.out.println(call + " answered " + got + ", due is " + want);
+        }
+    }
+
+    static void due(String call, boolean got, boolean want) {
+        due(call, got ? 1 : 0, want ? 1 : 0);
+    }
+
+    /** The pipes of a way, in their order, with the end of the row. */
+    static void duePipes(WaySearch x, int way, int... want) {
+        for (int k = 0; k < want.length; k++) {
+            due("pipeOf(" + way + ", " + k + ")", x.pipeOf(way, k), want[k]);
+        }
+        due("pipeOf(" + way + ", " + want.length + ")", x.pipeOf(way, want.length), WaySearch.NONE);
+    }
+
+    /** The valves of a way, in their order, with the end of the row. */
+    static void dueValves(WaySearch x, int way, int... want) {
+        for (int k = 0; k < want.length; k++) {
+            due("valveOf(" + way + ", " + k + ")", x.valveOf(way, k), want[k]);
+        }
+        due("valveOf(" + way + ", " + want.length + ")", x.valveOf(way, want.length), WaySearch.NONE);
+    }
+
+    /** The pipes of a way that can be flushed back, in their order, with the end of the row. */
+    static void dueBlown(WaySearch x, int way, int... want) {
+        for (int k = 0; k < want.length; k++) {
+            due("blow(" + way + ", " + k + ")", x.blow(way, k), want[k]);
+        }
+        due("blow(" + way + ", " + want.length + ")", x.blow(way, want.length), WaySearch.NONE);
+    }
+
+    static void end() {
+        System.out.println(compared + " answers compared, " + wrong + " not as due");
+        if (wrong != 0 || compared == 0) {
+            System.exit(1);
+        }
+    }
+}
