@@ -29,8 +29,6 @@ public final class OtherTest {
         Check.duePipes(x, 1, 2, 3);
         Check.due("without the second pipe", x.other(0, 1), 2);
         Check.duePipes(x, 2, 2, 3);
-        x.run(4, true);
-        x.run(4, false);
         Check.due("the pipe is shut for one call alone", x.way(0, 1), 3);
         Check.duePipes(x, 3, 0, 1);
         Check.due("other of another way", x.other(1, 0), 4);

@@ -73,8 +73,6 @@ public final class TwoTest {
         x.pipe(a, 1, 5);
         Check.due("the least way takes both valves", x.two(0, 1, 0, 1), WaySearch.NONE);
         Check.due("nothing is kept", x.told(2), 0);
-        x.bar(0, true);
-        x.bar(0, false);
         x.pipe(0, 1, 100);
         Check.due("a straight pipe is left", x.two(0, 1, 0, 1), 1);
         Check.duePipes(x, 0, 0, 1, 2);
@@ -85,7 +83,6 @@ public final class TwoTest {
         WaySearch x = new WaySearch();
         x.tank(false);
         x.tank(false);
-        int a = x.valve();
         x.pipe(0, 1, 1);
         Check.due("one pipe for both", x.two(0, 1, 0, 1), WaySearch.NONE);
         Check.due("one pipe for both, back", x.two(0, 1, 1, 0), WaySearch.NONE);
@@ -96,7 +93,7 @@ public final class TwoTest {
         WaySearch y = new WaySearch();
         y.tank(false);
         y.tank(false);
-        a = y.valve();
+        int a = y.valve();
         y.pipe(0, a, 1);
         y.pipe(0, a, 1);
         y.pipe(a, 1, 1);

@@ -108,8 +108,7 @@ public final class WayTest {
         y.pipe(0, c, 1);
         Check.due("pipes beside pipes", y.way(0, 1), 0);
         Check.duePipes(y, 0, 0, 1);
-        y.run(3, true);
-        y.run(3, false);
+        y.pipe(0, c, 1);
         y.other(0, 0);
         Check.duePipes(y, 1, 3, 1);
     }
