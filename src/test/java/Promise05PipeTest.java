@@ -124,7 +124,7 @@ public final class Promise05PipeTest extends Sentences {
 
     @Sentence(promise = 5, says = NO_THING)
     static void wrongLeavesEverythingAsItWas() {
-        leavesAll(Sentences::mixed, x -> {
+        leavesAllOfMixed(x -> {
             for (int none : outside(MIXED_THINGS)) {
                 x.due(WRONG).pipe(none, 8, 1);
                 x.due(WRONG).pipe(8, none, 1);
@@ -166,7 +166,7 @@ public final class Promise05PipeTest extends Sentences {
 
     @Sentence(promise = 5, says = BOTH_ONE)
     static void noneLeavesEverythingAsItWas() {
-        leavesAll(Sentences::mixed, x -> {
+        leavesAllOfMixed(x -> {
             for (long litres : BAD_LITRES) {
                 x.due(NONE).pipe(8, 0, litres);
             }

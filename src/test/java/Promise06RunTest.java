@@ -95,7 +95,7 @@ public final class Promise06RunTest extends Sentences {
 
     @Sentence(promise = 6, says = NO_PIPE)
     static void noSuchPipeLeavesEverythingAsItWas() {
-        leavesAll(Sentences::mixed, x -> {
+        leavesAllOfMixed(x -> {
             for (int none : outside(MIXED_PIPES)) {
                 x.due(false).run(none, true);
             }

@@ -100,7 +100,7 @@ public final class Promise07BarTest extends Sentences {
 
     @Sentence(promise = 7, says = NO_THING)
     static void noSuchThingLeavesEverythingAsItWas() {
-        leavesAll(Sentences::mixed, x -> {
+        leavesAllOfMixed(x -> {
             for (int none : outside(MIXED_THINGS)) {
                 x.due(false).bar(none, true);
             }

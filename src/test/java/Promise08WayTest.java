@@ -125,7 +125,7 @@ public final class Promise08WayTest extends Sentences {
 
     @Sentence(promise = 8, says = NO_TANK)
     static void wrongLeavesEverythingAsItWas() {
-        leavesAll(Sentences::mixed, x -> {
+        leavesAllOfMixed(x -> {
             for (int none : outside(MIXED_THINGS)) {
                 x.due(WRONG).way(none, 1);
                 x.due(WRONG).way(0, none);
@@ -169,7 +169,7 @@ public final class Promise08WayTest extends Sentences {
 
     @Sentence(promise = 8, says = "SAME;")
     static void sameLeavesEverythingAsItWas() {
-        leavesAll(Sentences::mixed, x -> {
+        leavesAllOfMixed(x -> {
             x.due(SAME).way(0, 0);
             x.due(SAME).way(1, 1);
             x.due(SAME).way(EMPTY_TANK, EMPTY_TANK);
@@ -202,7 +202,7 @@ public final class Promise08WayTest extends Sentences {
 
     @Sentence(promise = 8, says = "EMPTY;")
     static void emptyLeavesEverythingAsItWas() {
-        leavesAll(Sentences::mixed, x -> {
+        leavesAllOfMixed(x -> {
             x.due(EMPTY).way(EMPTY_TANK, 0);
             x.due(EMPTY).way(EMPTY_TANK, 1);
         });

@@ -56,7 +56,7 @@ public final class Promise11RestTest extends Sentences {
 
     @Sentence(promise = 11, says = "WRONG.")
     static void wrongLeavesEverythingAsItWas() {
-        leavesAll(Sentences::mixed, x -> {
+        leavesAllOfMixed(x -> {
             for (int none : outside(MIXED_WAYS)) {
                 x.due(WRONG).rest(none);
             }

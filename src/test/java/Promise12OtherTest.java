@@ -113,7 +113,7 @@ public final class Promise12OtherTest extends Sentences {
 
     @Sentence(promise = 12, says = ORDER)
     static void wrongLeavesEverythingAsItWas() {
-        leavesAll(Sentences::mixed, x -> {
+        leavesAllOfMixed(x -> {
             for (int none : outside(MIXED_WAYS)) {
                 x.due(WRONG).other(none, 0);
             }
@@ -176,9 +176,11 @@ public final class Promise12OtherTest extends Sentences {
 
     @Sentence(promise = 12, says = NO_WAY)
     static void noneLeavesEverythingAsItWas() {
-        leavesAll(Sentences::mixed, x -> {
+        leavesAllOfMixed(x -> {
             for (int none : outside(3)) {
                 x.due(NONE).other(0, none);
+                x.due(NONE).other(1, none);
+                x.due(NONE).other(2, none);
             }
         });
         leavesAll(() -> {

@@ -36,10 +36,10 @@ public final class Promise13TwoTest extends Sentences {
         return house;
     }
 
-    /** Two tanks, and so many things of one kind, each with a pipe to both tanks; all in common. */
-    private static House twoPipesEach(boolean pumps) {
+    /** One pump or valve between two tanks, with two pipes to each of them. */
+    private static House twoPipesEach(boolean isPump) {
         House house = tanks(2);
-        int thing = pumps ? house.pump() : house.valve();
+        int thing = isPump ? house.pump() : house.valve();
         house.pipe(0, thing, 1);
         house.pipe(0, thing, 1);
         house.pipe(thing, 1, 1);
@@ -289,6 +289,14 @@ public final class Promise13TwoTest extends Sentences {
             x.due(SAME).two(0, 1, 2, 2);
             x.due(EMPTY).two(EMPTY_TANK, 1, 2, 3);
             x.due(EMPTY).two(0, 1, EMPTY_TANK, 3);
+        });
+        leavesAllOfMixed(x -> {
+            x.due(WRONG).two(0, 1, 0, 5);
+            x.due(WRONG).two(3, 1, 0, 1);
+            x.due(SAME).two(0, 0, 1, 0);
+            x.due(SAME).two(0, 1, 1, 1);
+            x.due(EMPTY).two(2, 1, 1, 0);
+            x.due(EMPTY).two(0, 1, 2, 0);
         });
     }
 

@@ -17,8 +17,8 @@ public final class Promise14ForwardTest extends Sentences {
     }
 
     /**
-     * Tanks 0 and 1; pump 2 is joined to both and to valve 3, the valve to both tanks' pump 4 and to
-     * tank 1; valve 5 has no pipe.
+     * Tanks 0 and 1; pump 2 is joined to both of them and to valve 3, the valve to pump 4 and to
+     * tank 1 too; valve 5 has no pipe.
      */
     private static House pumps() {
         House house = tanks(2);
@@ -219,6 +219,14 @@ public final class Promise14ForwardTest extends Sentences {
             x.due(false).forward(PUMP, 1, LOOSE);
             x.due(false).forward(PUMP, LOOSE, 0);
             x.due(false).forward(OTHER_PUMP, VALVE, 1);
+        });
+        leavesAllOfMixed(x -> {
+            x.due(false).forward(5, 3, 1);
+            x.due(false).forward(3, 5, 5);
+            x.due(false).forward(3, 5, 8);
+            x.due(false).forward(3, 8, 0);
+            x.due(false).forward(4, 0, 7);
+            x.due(false).forward(MIXED_THINGS, 0, 1);
         });
     }
 

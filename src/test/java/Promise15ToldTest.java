@@ -152,7 +152,7 @@ public final class Promise15ToldTest extends Sentences {
 
     @Sentence(promise = 15, says = "NONE for another what.")
     static void noneLeavesEverythingAsItWas() {
-        leavesAll(Sentences::mixed, x -> {
+        leavesAllOfMixed(x -> {
             for (int what : outside(7)) {
                 x.due(NONE).told(what);
             }

@@ -117,12 +117,14 @@ public final class Promise16BlowTest extends Sentences {
 
     @Sentence(promise = 16, says = "WRONG, NONE.")
     static void refusedLeavesEverythingAsItWas() {
-        leavesAll(Sentences::mixed, x -> {
-            x.due(WRONG).blow(MIXED_WAYS, 0);
-            x.due(WRONG).blow(-1, 0);
+        leavesAllOfMixed(x -> {
+            for (int none : outside(MIXED_WAYS)) {
+                x.due(WRONG).blow(none, 0);
+                x.due(NONE).blow(0, none);
+                x.due(NONE).blow(1, none);
+                x.due(NONE).blow(2, none);
+            }
             x.due(NONE).blow(0, 2);
-            x.due(NONE).blow(0, 3);
-            x.due(NONE).blow(0, -1);
         });
     }
 }

@@ -85,6 +85,12 @@ abstract class Sentences {
         }
     }
 
+    /** The same of calls that are refused in the mixed house, whatever is barred in it and runs. */
+    static void leavesAllOfMixed(Consumer<House> refused) {
+        leavesAll(Sentences::mixed, refused);
+        leavesAll(Sentences::closed, refused);
+    }
+
     /** Tanks 0, 1 and so on, none of them empty. */
     static House tanks(int many) {
         House house = new House();
@@ -131,6 +137,18 @@ abstract class Sentences {
     static final int MIXED_THINGS = 9;
     static final int MIXED_PIPES = 12;
     static final int MIXED_WAYS = 3;
+
+    /** The mixed house with all things barred but those that were, and all pipes running likewise. */
+    static House closed() {
+        House house = mixed();
+        for (int thing = 0; thing < MIXED_THINGS; thing++) {
+            house.bar(thing, thing != 7);
+        }
+        for (int pipe = 0; pipe < MIXED_PIPES; pipe++) {
+            house.run(pipe, pipe != 9);
+        }
+        return house;
+    }
 
     /** The mixed house with as many things as there can be: the further ones are of all kinds. */
     static House fullOfThings() {

@@ -64,6 +64,29 @@ public final class TermsTest extends Sentences {
         x.due(96).told(1);
     }
 
+    @Sentence(promise = {5, 8}, in = "Terms", says = PIPES)
+    static void theLastOfTheMostPipesAreOnAWayToo() {
+        House x = tanks(2);
+        for (int i = 0; i < MOST_THINGS - 2; i++) {
+            x.valve();
+        }
+        for (int i = 0; i < MOST_PIPES - 2; i++) {
+            int valve = 2 + i % 45;
+            x.pipe(valve, valve + 1, 1 + i / 45);
+        }
+        x.due(94).pipe(0, 47, 1);
+        x.due(95).pipe(1, 2, 1);
+        x.due(0).way(0, 1);
+        x.due(47).rest(0);
+        x.due(94).pipeOf(0, 0);
+        x.due(44).pipeOf(0, 1);
+        x.due(0).pipeOf(0, 45);
+        x.due(95).pipeOf(0, 46);
+        x.due(1).way(1, 0);
+        x.due(95).pipeOf(1, 0);
+        x.due(94).pipeOf(1, 46);
+    }
+
     @Sentence(promise = {3, 8, 14}, in = "Terms", says = PUMP)
     static void fromInToOutAndNeverOtherwise() {
         for (int in = 0; in < 3; in++) {
