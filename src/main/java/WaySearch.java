@@ -27,9 +27,9 @@ public final class WaySearch {
     private int wayCount;
 
     public WaySearch() {
-        things = new Things();
-        pipes = new Pipes();
-        search = new Search(things, pipes);
+        search = new Search();
+        things = search.things;
+        pipes = search.pipes;
         ways = new FoundWay[MOST_WAYS];
         wayCount = 0;
     }
@@ -358,7 +358,8 @@ public final class WaySearch {
     }
 
     /**
-     * The search for the least way. The rows are made once and used again by every search.
+     * The search for the least way, over the things and pipes that it makes. The rows are made once
+     * and used again by every search.
      *
      * A pump lets liquid in from one thing and out to one thing, so whether it flows through a pipe
      * depends on the pipe's two ends alone: each open direction of a pipe is an ARC, and a way is a
@@ -366,13 +367,14 @@ public final class WaySearch {
      */
     private static final class Search {
         static final int MOST_ARCS = 2 * MOST_PIPES;
-        static final long FAR = Long.MAX_VALUE;
+        /** More than any way costs. */
+        static final long FAR = 1L << 62;
         /** More than all valves together, so that no number of them outweighs a litre. */
         static final long COST_OF_LITRE = 64;
         static final long COST_OF_VALVE = 1;
 
-        final Things things;
-        final Pipes pipes;
+        final Things things = new Things();
+        final Pipes pipes = new Pipes();
         final boolean[] thingIsShut = new boolean[MOST_THINGS];
         final boolean[] pipeIsShut = new boolean[MOST_PIPES];
         final int[] arcPipe = new int[MOST_ARCS];
@@ -383,11 +385,6 @@ public final class WaySearch {
         final long[] costToEnd = new long[MOST_THINGS];
         final int[] rowPipes = new int[MOST_THINGS];
         final int[] rowThings = new int[MOST_THINGS];
-
-        Search(Things things, Pipes pipes) {
-            this.things = things;
-            this.pipes = pipes;
-        }
 
         /** Opens all but what the house itself keeps off every way now. */
         void openAll() {

@@ -1,9 +1,14 @@
+import java.io.IOException;
 import java.lang.reflect.Constructor;
 import java.lang.reflect.Field;
 import java.lang.reflect.Method;
 import java.lang.reflect.Modifier;
+import java.nio.file.Files;
+import java.nio.file.Path;
 import java.util.Set;
 import java.util.TreeSet;
+import java.util.regex.Matcher;
+import java.util.regex.Pattern;
 
 /** The public face: every member of the document, and no other one that can be seen from outside. */
 public final class FaceTest {
@@ -15,10 +20,14 @@ public final class FaceTest {
             "int blow(int,int)");
     private static final Set<String> CONSTANTS = Set.of("NONE", "WRONG", "SAME", "EMPTY", "FULL");
 
-    public static void main(String[] args) {
+    private static final Path DOCUMENT = Path.of("../shared/DOC.md");
+    private static final Pattern FACE = Pattern.compile("(?s)## The public face\\s+```java\n(.*?)```");
+
+    public static void main(String[] args) throws IOException {
         constants();
         visibleMembers();
         privateNames();
+        documentsFace();
         Check.end();
     }
 
@@ -76,11 +85,55 @@ public final class FaceTest {
         }
     }
 
+    /** The lines of the document's face are those of the class, in whatever order, and no others. */
+    private static void documentsFace() throws IOException {
+        if (!Files.exists(DOCUMENT)) {
+            System.out.println(DOCUMENT + " is not here: the face is not compared with it");
+            return;
+        }
+        Matcher face = FACE.matcher(Files.readString(DOCUMENT));
+        Set<String> told = new TreeSet<>();
+        if (face.find()) {
+            face.group(1).lines().forEach(line -> told.add(withoutNames(line.strip())));
+        }
+        Set<String> shown = linesOfTheClass();
+        Check.due("face in the document " + told + ", of the class " + shown, told.equals(shown), true);
+    }
+
+    /** A method's line with its parameters' types alone. */
+    private static String withoutNames(String line) {
+        return line.replaceAll("(boolean|int|long) \\w+(?=[,)])", "$1").replace(", ", ",");
+    }
+
+    private static Set<String> linesOfTheClass() {
+        Set<String> lines = new TreeSet<>(Set.of("}"));
+        lines.add(Modifier.toString(WaySearch.class.getModifiers()) + " class WaySearch {");
+        for (Constructor<?> constructor : WaySearch.class.getConstructors()) {
+            lines.add("public WaySearch(" + types(constructor.getParameterTypes()) + ");");
+        }
+        for (Method method : WaySearch.class.getDeclaredMethods()) {
+            if (!Modifier.isPrivate(method.getModifiers())) {
+                lines.add(Modifier.toString(method.getModifiers()) + " " + signature(method) + ";");
+            }
+        }
+        lines.add("public static final int NONE = " + WaySearch.NONE + ";");
+        lines.add("public static final int WRONG = " + WaySearch.WRONG + ";");
+        lines.add("public static final int SAME = " + WaySearch.SAME + ";");
+        lines.add("public static final int EMPTY = " + WaySearch.EMPTY + ";");
+        lines.add("public static final int FULL = " + WaySearch.FULL + ";");
+        return lines;
+    }
+
     private static String signature(Method method) {
+        return method.getReturnType().getSimpleName() + " " + method.getName()
+                + "(" + types(method.getParameterTypes()) + ")";
+    }
+
+    private static String types(Class<?>[] parameters) {
         StringBuilder text = new StringBuilder();
-        for (Class<?> type : method.getParameterTypes()) {
+        for (Class<?> type : parameters) {
             text.append(text.length() == 0 ? "" : ",").append(type.getSimpleName());
         }
-        return method.getReturnType().getSimpleName() + " " + method.getName() + "(" + text + ")";
+        return text.toString();
     }
 }

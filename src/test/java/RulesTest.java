@@ -12,7 +12,9 @@ public final class RulesTest {
         "\\bthrow\\b", "\\bthrows\\b", "\\btry\\b", "\\bcatch\\b", "\\bfinally\\b", "\\bsynchronized\\b",
         "\\bassert\\b", "\\bpackage\\b", "->", "::", "\\bequals\\b", "\\bhashCode\\b", "\\btoString\\b",
         "\\bObject\\b", "\\bSystem\\.(?!arraycopy)", "Exact\\b", "\\bprotected\\b",
+        "\\b(Integer|Long|Math)\\.[A-Z]",
         "import (?!java\\.util\\.Arrays;)"};
+    private static final Pattern CONSTRUCTOR = Pattern.compile("(?s)public WaySearch\\(\\) \\{(.*?)\\}");
     private static final int[] ODD_NUMBERS = {
         0, 1, 2, 7, 46, 47, 48, 49, 62, 63, 64, 65, 95, 96, 97, 128, 191, 192, 511, 512, 513,
         -1, -2, -3, -4, -5, -6, -64, Integer.MIN_VALUE, Integer.MIN_VALUE + 1,
@@ -33,6 +35,9 @@ public final class RulesTest {
             Matcher matcher = Pattern.compile(word).matcher(code);
             Check.due("uses of " + word, matcher.results().count(), 0);
         }
+        Matcher constructor = CONSTRUCTOR.matcher(code);
+        Check.due("the constructor is found", constructor.find(), true);
+        Check.due("the constructor hands something out", constructor.group(1).matches("(?s).*\\([^)].*"), false);
         for (int i = 0; i < text.length(); i++) {
             if (text.charAt(i) > 126) {
                 Check.due("character " + i, text.charAt(i), ' ');
